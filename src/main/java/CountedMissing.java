@@ -883,21 +883,21 @@ public final class CountedMissing {
             }
             ways = 0;
             surely = home;
-            tellFrom(folk, 0, home);
+            tellFrom(this, folk, 0, home);
         }
 
-        private void tellFrom(Folk folk, int year, int there) {
-            if (year >= years) {
-                ways++;
-                surely &= ~there;
+        private static void tellFrom(Retelling tale, Folk folk, int year, int there) {
+            if (year >= tale.years) {
+                tale.ways++;
+                tale.surely &= ~there;
                 return;
             }
             int all = 1 << Integer.bitCount(there);
             int going = 0;
             for (int k = 0; k < all; k++) {
-                left[year] = going;
-                if (countIn(folk, year, there & ~going) == counts[year]) {
-                    tellFrom(folk, year + 1, there & ~going);
+                tale.left[year] = going;
+                if (tale.countIn(folk, year, there & ~going) == tale.counts[year]) {
+                    tellFrom(tale, folk, year + 1, there & ~going);
                 }
                 going = nextPart(going, there);
             }

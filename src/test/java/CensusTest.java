@@ -20,6 +20,7 @@ public final class CensusTest {
         person(due);
         town(due);
         counts(due);
+        eight(due);
         law(due);
         due.end();
     }
@@ -214,6 +215,7 @@ public final class CensusTest {
 
     private static void censusForgets(Due due) {
         CountedMissing x = Due.of("Z04P0a9P0b9A01");
+        x.year();
         x.go(1, 3);
         x.die(1);
         x.year();
@@ -321,6 +323,37 @@ public final class CensusTest {
             due.due(when + ", law " + law + " of town 0", x.town(0, 0), zero[law]);
             due.due(when + ", law " + law + " of town 1", x.town(1, 0), one[law]);
         }
+    }
+
+    /** As many as there may be, the first and the last of them missed. */
+    private static void eight(Due due) {
+        CountedMissing x = Due.of("Z24P0a9P0b9P0c9P0d9P0e9P0f9P0a9P0b9A10A37A32A20A67");
+        x.go(0, 3);
+        x.go(2, 1);
+        x.go(7, 2);
+        due.due("alive", x.about(4), 255);
+        due.due("missed", x.about(5), 133);
+        due.due("HOME", x.town(0, 3), 255);
+        due.due("missing", x.town(0, 4), 133);
+        due.due("missed there", x.town(0, 5), 133);
+        due.due("truly", x.town(0, 1), 5);
+        due.due("names a, b, c", x.town(0, 0), 3);
+        due.due("whom 3 misses", x.person(3, 7), 132);
+        due.due("0 is forgotten", x.forgotten(0), 10);
+        due.due("7 is forgotten", x.forgotten(7), 10);
+        due.due("4 is there", x.forgotten(4), 0);
+        due.due("no other names", x.lie(0, 4), CountedMissing.NONE);
+        due.due("names 2", x.leave(0, 2), 2);
+        due.due("names 1", x.leave(0, 1), 10);
+        due.due("names 0", x.leave(0, 0), 74);
+        due.due("4, 5 and 6 are free", x.spans(0, 3, 0), 8);
+        due.due("the first of these", x.toAsk(0, 3), 4);
+        due.due("of eight", x.chance(0, 0, 3, true), 1);
+        due.due("far too many", x.retold(0, 1, 0, 0), CountedMissing.LATE);
+        x.law(0);
+        due.due("pairs", x.town(0, 0), 4);
+        due.due("all lies", x.lie(0, 15), 11);
+        due.due("more than all", x.lie(0, 16), CountedMissing.NONE);
     }
 
     private static void law(Due due) {

@@ -13,6 +13,7 @@ public final class GuessedTest {
         retold(due);
         retoldMemory(due);
         retoldRefused(due);
+        otherHomes(due);
         chance(due);
         chanceRefused(due);
         changesNothing(due);
@@ -180,6 +181,26 @@ public final class GuessedTest {
         due.due("BAD ahead of LATE: what", x.retold(0, 1, 0, 2), CountedMissing.BAD);
         due.due("UNKNOWN ahead of BAD", x.retold(2, 4, -1, 2), CountedMissing.UNKNOWN);
         due.due("one", x.retold(1, 1, 0, 0), 2);
+    }
+
+    /** Who asks after one of another HOME, and after the first one. */
+    private static void otherHomes(Due due) {
+        CountedMissing x = Due.of("Z02P0a0P1b0P1b0A10A20A12A02");
+        due.due("sets of 0", x.spans(1, 0, 0), 3);
+        due.due("sets of 1", x.spans(1, 1, 0), 1);
+        due.due("like ones", x.toAsk(1, 0), 1);
+        due.due("one set", x.toAsk(1, 1), 1);
+        due.due("ways of 0", x.retold(1, 1, 0, 0), 3);
+        due.due("ways of 1", x.retold(1, 1, 1, 0), 1);
+        due.due("surely", x.retold(1, 1, 1, 1), 4);
+        due.due("chance", x.chance(1, 1, 1, true), 9);
+        x = Due.of("Z01P0a0P0b0A10");
+        due.due("the first there or gone", x.retold(0, 1, 0, 0), 3);
+        due.due("the first gone", x.retold(0, 1, 1, 1), 1);
+        due.due("the first is away", x.spans(0, 1, 0), 1);
+        x = Due.of("Z02P0a0P1b0P1b0P1c0A10A12");
+        due.due("3 stands by itself", x.toAsk(1, 0), 3);
+        due.due("3 again", x.toAsk(1, 1), 3);
     }
 
     private static void chance(CountedMissing x, Due due, int c, int tenths, long upper, long lower) {

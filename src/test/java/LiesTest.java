@@ -149,6 +149,7 @@ public final class LiesTest {
         due.due("1", x.leave(0, 1), 3);
         due.due("0", x.leave(0, 0), 7);
         due.due("another TOWN", x.leave(1, 0), 16);
+        due.due("another TOWN, 1", x.leave(1, 1), 0);
         x.law(1);
         due.due("missed 1", x.leave(0, 1), 0);
         due.due("missed 0", x.leave(0, 0), 7);
