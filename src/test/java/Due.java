@@ -1,18 +1,28 @@
 /** Compares answers with those that are due, and ends a test. */
 final class Due {
     private final String test;
+    private String sentence = "";
     private int asked;
+    private int askedOfSentence = 1;
     private int wrong;
 
     Due(String test) {
         this.test = test;
     }
 
+    /** What comes next holds to these words of the document. */
+    void sentence(String words) {
+        checkSentence();
+        sentence = "\"" + words + "\", ";
+        askedOfSentence = 0;
+    }
+
     void due(String call, long got, long want) {
         asked++;
+        askedOfSentence++;
         if (got != want) {
             wrong++;
-            System.out.println(test + ": " + call + " answered " + got + ", due is " + want);
+            System.out.println(test + ": " + sentence + call + " answered " + got + ", due is " + want);
         }
     }
 
@@ -21,9 +31,17 @@ final class Due {
     }
 
     void end() {
+        checkSentence();
         System.out.println(test + ": " + asked + " answers, " + wrong + " not as due");
         if (wrong != 0 || asked == 0) {
             System.exit(1);
+        }
+    }
+
+    private void checkSentence() {
+        if (askedOfSentence == 0) {
+            wrong++;
+            System.out.println(test + ": " + sentence + "nothing was asked of it");
         }
     }
 
@@ -54,5 +72,18 @@ final class Due {
             v = v << 8 | part.charAt(k) & 255;
         }
         return v;
+    }
+
+    static void years(CountedMissing x, int n) {
+        for (int k = 0; k < n; k++) {
+            x.year();
+        }
+    }
+
+    /** Brings the RUMOURS of a TOWN without any to n. */
+    static void rumours(CountedMissing x, int town, int n) {
+        for (int left = n; left > 0; left -= 9) {
+            x.rumour(town, Math.min(left, 9));
+        }
     }
 }
