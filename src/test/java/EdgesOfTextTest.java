@@ -242,7 +242,7 @@ public final class EdgesOfTextTest {
 
     /** A byte is at fault as soon as nothing behind it could make a CENSUS. */
     private static void faultWhenAllAreTold(Due due) {
-        due.sentence("the first byte by which THE TEXT can be no CENSUS, whatever came behind it");
+        due.sentence("the place (from 0) of the first byte by which THE TEXT can be no CENSUS, whatever came behind it");
         only(due, TWO + "A01A", "1", false);
         only(due, TWO + "A10A", "0", false);
         only(due, TWO + "A01A10", "P", false);

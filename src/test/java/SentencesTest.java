@@ -4,15 +4,22 @@ import java.nio.file.DirectoryStream;
 import java.nio.file.Files;
 import java.nio.file.Path;
 import java.util.ArrayList;
+import java.util.Arrays;
 import java.util.List;
 import java.util.regex.Matcher;
 import java.util.regex.Pattern;
 
-/** The sentences that the tests name stand in the document, and there is one at least of every promise. */
+/** The sentences that the tests name stand in the document, and of its Terms and promises none is left unnamed. */
 public final class SentencesTest {
     private static final Path DOCUMENT = Path.of("../shared/DOC.md");
     private static final Pattern NAMED = Pattern.compile("due\\.sentence\\(\"([^\"]*)\"\\)");
+    private static final Pattern WORD = Pattern.compile("[A-Za-z']+");
     private static final int PROMISES = 23;
+    /** Heads, calls, and what the interface says ahead of them are no sentences. */
+    private static final Pattern NO_SENTENCE = Pattern.compile(
+            "## Terms|```(text)?|`[A-Za-z][^`]*\\)`|## Promise \\d+: [^`]+|Ahead of the calls .*? ---- [a-z ]+\\.");
+    /** What stands between two sentences that are named is a label, "A LIE for a TOWN:", and has no more words. */
+    private static final int MOST_WORDS_OF_LABEL = 5;
 
     public static void main(String[] args) throws IOException {
         Due due = new Due("SentencesTest");
@@ -27,7 +34,30 @@ public final class SentencesTest {
             String promise = parts[k];
             due.holds("a test names a sentence of promise " + k, sentences.stream().anyMatch(promise::contains));
         }
+        namesAll(due, document, sentences);
         due.end();
+    }
+
+    private static void namesAll(Due due, String document, List<String> sentences) {
+        int from = document.indexOf("## Terms");
+        int to = document.indexOf("## Not promised");
+        boolean[] named = new boolean[document.length()];
+        for (String sentence : sentences) {
+            for (int at = document.indexOf(sentence); at >= 0; at = document.indexOf(sentence, at + 1)) {
+                Arrays.fill(named, at, at + sentence.length(), true);
+            }
+        }
+        Matcher found = NO_SENTENCE.matcher(document).region(from, to);
+        while (found.find()) {
+            Arrays.fill(named, found.start(), found.end(), true);
+        }
+        StringBuilder unnamed = new StringBuilder();
+        for (int at = from; at < to; at++) {
+            unnamed.append(named[at] ? '\n' : document.charAt(at));
+        }
+        for (String rest : unnamed.toString().split("\n+")) {
+            due.holds("a test names \"" + rest + "\"", WORD.matcher(rest).results().count() <= MOST_WORDS_OF_LABEL);
+        }
     }
 
     private static List<String> namedByTests() throws IOException {
