@@ -194,7 +194,7 @@ public final class EdgesOfGuessesTest {
     }
 
     private static void retoldFigures(Due due) {
-        due.sentence("told (0 or more, n figures at most)");
+        due.sentence("UNKNOWN; BAD: n, told (0 or more, n figures at most)");
         CountedMissing x = Due.of("Z01P0a0P0b0A01");
         int[][] last = {{1, 9}, {2, 99}, {3, 999}};
         for (int[] row : last) {

@@ -13,13 +13,14 @@ import java.util.regex.Pattern;
 public final class SentencesTest {
     private static final Path DOCUMENT = Path.of("../shared/DOC.md");
     private static final Pattern NAMED = Pattern.compile("due\\.sentence\\(\"([^\"]*)\"\\)");
-    private static final Pattern WORD = Pattern.compile("[A-Za-z']+");
     private static final int PROMISES = 23;
     /** Heads, calls, and what the interface says ahead of them are no sentences. */
     private static final Pattern NO_SENTENCE = Pattern.compile(
             "## Terms|```(text)?|`[A-Za-z][^`]*\\)`|## Promise \\d+: [^`]+|Ahead of the calls .*? ---- [a-z ]+\\.");
-    /** What stands between two sentences that are named is a label, "A LIE for a TOWN:", and has no more words. */
-    private static final int MOST_WORDS_OF_LABEL = 5;
+    /** What else may stand unnamed between two sentences: what they are of, signs and numbers. */
+    private static final Pattern LABEL = Pattern.compile(
+            "[^A-Za-z]*(|PEOPLE|Ptam|Aij|FAULT|and|COUNT of a TOWN|FORGOTTEN|A LIE for a TOWN"
+            + "|TO LEAVE a TOWN|SPANS|TO ASK|RETOLD|CHANCE|REFUSALS)[^A-Za-z]*");
 
     public static void main(String[] args) throws IOException {
         Due due = new Due("SentencesTest");
@@ -56,7 +57,7 @@ public final class SentencesTest {
             unnamed.append(named[at] ? '\n' : document.charAt(at));
         }
         for (String rest : unnamed.toString().split("\n+")) {
-            due.holds("a test names \"" + rest + "\"", WORD.matcher(rest).results().count() <= MOST_WORDS_OF_LABEL);
+            due.holds("a test names \"" + rest + "\"", LABEL.matcher(rest).matches());
         }
     }
 
